@@ -80,6 +80,8 @@ public final class VaryStore {
         readTape(path);
         Thing spare = shelf.spare();
         describe(spare, path);
+        cutList(draft, "cache-control", words);
+        spare.obey(words);
         startLife(spare);
         shelf.drop(placeOfSame(spare));
         if (!mayBeKept(spare)) {
@@ -209,6 +211,7 @@ public final class VaryStore {
         return value.number(0, value.length);
     }
 
+    /** What stays as it is when a thing is made again. */
     private void describe(Thing thing, int path) {
         thing.path = path;
         thing.request.copy(request);
@@ -216,8 +219,6 @@ public final class VaryStore {
         thing.etag.copy(value);
         cutList(draft, "vary", thing.vary);
         thing.vary.makeSmall();
-        cutList(draft, "cache-control", words);
-        thing.obey(words);
     }
 
     /** LIFE and AGE from now on, as the thing's cache-control and the draft tell. */
@@ -291,6 +292,7 @@ public final class VaryStore {
         if (words.has("no-cache") || (maxAge >= 0 && age > maxAge)) {
             return AGAIN;
         }
+        // A REQUEST with max-stale takes all that is FRESH, whatever its min-fresh.
         int maxStale = words.said("max-stale");
         if (one.isFreshAt(time)) {
             int minFresh = words.said("min-fresh");
@@ -589,8 +591,10 @@ public final class VaryStore {
         private final Items vary = new Items();
         private final Text request = new Text();
         private int path = 0;
+        // Of its cache-control, as it must be known if it is made again without one.
         private int sharedMaxAge = ABSENT;
         private int maxAge = ABSENT;
+        // secret: it may not be KEPT; unsure: never FRESH; strict: not served when it is not FRESH.
         private boolean secret = false;
         private boolean unsure = false;
         private boolean strict = false;

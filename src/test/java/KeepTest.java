@@ -10,6 +10,7 @@ public final class KeepTest {
         refusedGoes();
         atMostTwentyFour();
         usedStay();
+        usedLongAgoGoes();
         wrongThings();
         Due.end();
     }
@@ -118,6 +119,12 @@ public final class KeepTest {
         vary("vary: a\n", 1);
         vary("vary: a, b ,c\nVary: d\n", 4);
         vary("vary: a, a\n", 2);
+        vary("vary:" + "a,".repeat(142) + "b\n", 143);
+        VaryStore x = new VaryStore();
+        Due.ask(x, 1, "b: 1\n");
+        Due.due("keep by many names", Due.keep(x, 1, "etag:e\nvary:" + "a,".repeat(142) + "b\n"), 1);
+        Due.due("the last name counts", Due.ask(x, 1, "b: 2\n"), 0);
+        Due.due("all names are alike", Due.ask(x, 1, "b: 1\n"), 3);
     }
 
     private static void refused(String request, String text) {
@@ -232,6 +239,22 @@ public final class KeepTest {
         }
         Due.dueText("0 stays", Due.etag(x, 0), "0");
         Due.dueText("2 stays", Due.etag(x, 1), "2");
+        Due.due("things", x.things(), 24);
+    }
+
+    private static void usedLongAgoGoes() {
+        VaryStore x = new VaryStore();
+        for (int i = 0; i < 24; i++) {
+            Due.keep(x, i % 12, "etag: " + i + "\nvary: " + (i < 12 ? "a" : "b") + "\n");
+        }
+        Due.due("the first is used", Due.ask(x, 0, "b: 1\ncache-control: max-stale\n"), 2);
+        for (int i = 1; i < 24; i++) {
+            keepByNumber(x, 15, i);
+        }
+        Due.dueText("it stays while others go", Due.etag(x, 0), "0");
+        keepByNumber(x, 15, 24);
+        Due.dueText("it goes before what was kept later", Due.etag(x, 0), "1");
+        Due.due("path", Due.thing(x, 0, 0), 15);
         Due.due("things", x.things(), 24);
     }
 
