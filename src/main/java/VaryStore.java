@@ -353,7 +353,7 @@ public final class VaryStore {
         /** Whether the whole other row stands here from a place on. */
         boolean samePart(int from, Row other) {
             for (int i = 0; i < other.length; i++) {
-                if (at(from + i) != other.letters[i]) {
+                if (at(from + i) != other.at(i)) {
                     return false;
                 }
             }

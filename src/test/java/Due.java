@@ -39,12 +39,30 @@ final class Due {
         }
     }
 
+    /** One call of type with a part of 1 to 8 characters: 1 if it was taken. */
+    static int typed(VaryStore x, String part) {
+        return x.type(wordOf(part), part.length()) ? 1 : 0;
+    }
+
+    /** A new object with one thing, or none if it was not kept as it should be. */
+    static VaryStore kept(int path, String text) {
+        VaryStore x = new VaryStore();
+        due("keep " + text, keep(x, path, text), 1);
+        return x;
+    }
+
+    /** A class below the one that the document names would be none of the class's own throwing. */
+    private static int thrown(RuntimeException e, Class<?> want) {
+        due("the exception " + e, e.getClass() == want ? 1 : 0, 1);
+        return THROWS;
+    }
+
     static int ask(VaryStore x, int path, String text) {
         type(x, text);
         try {
             return x.ask(path);
         } catch (IllegalArgumentException e) {
-            return THROWS;
+            return thrown(e, IllegalArgumentException.class);
         }
     }
 
@@ -53,7 +71,7 @@ final class Due {
         try {
             return x.keep(path) ? 1 : 0;
         } catch (IllegalArgumentException e) {
-            return THROWS;
+            return thrown(e, IllegalArgumentException.class);
         }
     }
 
@@ -62,7 +80,7 @@ final class Due {
         try {
             return x.again(path) ? 1 : 0;
         } catch (IllegalArgumentException e) {
-            return THROWS;
+            return thrown(e, IllegalArgumentException.class);
         }
     }
 
@@ -70,7 +88,7 @@ final class Due {
         try {
             return x.pass(n);
         } catch (IllegalArgumentException e) {
-            return THROWS;
+            return thrown(e, IllegalArgumentException.class);
         }
     }
 
@@ -78,7 +96,7 @@ final class Due {
         try {
             return x.thing(i, what);
         } catch (NoSuchElementException e) {
-            return THROWS;
+            return thrown(e, NoSuchElementException.class);
         }
     }
 
