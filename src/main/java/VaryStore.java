@@ -337,8 +337,8 @@ public final class VaryStore {
         }
 
         void copy(Row other) {
-            System.arraycopy(other.letters, 0, letters, 0, other.length);
-            length = other.length;
+            clear();
+            addPart(other, 0, other.length);
         }
 
         /** The letter at a place; 0, which can not be typed, where there is none. */
@@ -527,10 +527,10 @@ public final class VaryStore {
 
         void copy(Text other) {
             row.copy(other.row);
-            System.arraycopy(other.starts, 0, starts, 0, other.lines);
-            System.arraycopy(other.colons, 0, colons, 0, other.lines);
-            System.arraycopy(other.ends, 0, ends, 0, other.lines);
-            lines = other.lines;
+            lines = Math.min(other.lines, MOST_LINES);
+            System.arraycopy(other.starts, 0, starts, 0, lines);
+            System.arraycopy(other.colons, 0, colons, 0, lines);
+            System.arraycopy(other.ends, 0, ends, 0, lines);
         }
 
         /** Answers the first letter of the first wrong LINE, or NONE. */
@@ -556,7 +556,7 @@ public final class VaryStore {
             }
             int letters = colon - start;
             if (colon >= end || row.at(colon) != ':' || letters < 1 || letters > MOST_NAME_LETTERS
-                    || lines >= starts.length) {
+                    || lines >= MOST_LINES) {
                 return false;
             }
             row.makeSmall(start, colon);
@@ -571,7 +571,7 @@ public final class VaryStore {
         boolean gather(Row name, Row target) {
             boolean there = false;
             target.clear();
-            for (int k = 0; k < lines; k++) {
+            for (int k = 0; k < lines && k < MOST_LINES; k++) {
                 if (colons[k] - starts[k] == name.length && row.samePart(starts[k], name)) {
                     if (there) {
                         target.add(',');

@@ -34,7 +34,7 @@ public final class AgainEdgesTest {
         int[] wrong = {-1, 16, 17, -16, 32, 256, Integer.MIN_VALUE, Integer.MAX_VALUE};
         for (int path : wrong) {
             Due.due("again " + path, Due.again(x, path, ""), Due.THROWS);
-            Due.due("fault", x.fault(), VaryStore.NONE);
+            Due.due("fault", Due.fault(x), VaryStore.NONE);
         }
     }
 
@@ -42,7 +42,7 @@ public final class AgainEdgesTest {
     private static void noneToBeMadeAgain() {
         VaryStore x = new VaryStore();
         Due.due("nothing is kept", Due.again(x, 0, "etag: e\ncache-control: max-age=5\n"), 0);
-        Due.due("nothing is kept by it", x.things(), 0);
+        Due.due("nothing is kept by it", Due.things(x), 0);
         Due.ask(x, 0, "a: 1\n");
         Due.keep(x, 0, "etag: e\nvary: a\n");
         Due.due("of another path", Due.again(x, 1, ""), 0);
@@ -52,7 +52,7 @@ public final class AgainEdgesTest {
         Due.due("not there", Due.again(x, 0, ""), 0);
         Due.ask(x, 1, "a: 1\n");
         Due.due("alike, asked for another path", Due.again(x, 0, ""), 1);
-        x.purge(0);
+        Due.purge(x, 0);
         Due.due("gone", Due.again(x, 0, ""), 0);
     }
 
@@ -129,7 +129,7 @@ public final class AgainEdgesTest {
         Due.due("vary *", Due.again(x, 4, "vary: *\n"), 1);
         Due.due("names", Due.thing(x, 0, 4), 1);
         Due.due("takes its place", Due.keep(x, 4, "etag: f\nvary: a\n"), 1);
-        Due.due("things", x.things(), 1);
+        Due.due("things", Due.things(x), 1);
     }
 
     // "all else is as this TEXT tells (cache-control, if it is there, else as it was"
@@ -160,7 +160,7 @@ public final class AgainEdgesTest {
         VaryStore y = Due.kept(0, "cache-control: max-age=10, must-revalidate\n");
         Due.due("there, without words", Due.again(y, 0, "cache-control:\n"), 1);
         dueThing(y, 0, 0, 0, 0, 0);
-        Due.due("it stays, though it would not be kept", y.things(), 1);
+        Due.due("it stays, though it would not be kept", Due.things(y), 1);
     }
 
     // "expires, date, age as they are told)"
@@ -215,7 +215,7 @@ public final class AgainEdgesTest {
             Due.due("the last", Due.thing(x, 2, 0), which);
             Due.due("the first", Due.thing(x, 0, 0), which == 0 ? 1 : 0);
             Due.due("the middle one", Due.thing(x, 1, 0), which == 2 ? 1 : 2);
-            Due.due("things", x.things(), 3);
+            Due.due("things", Due.things(x), 3);
         }
     }
 
@@ -228,7 +228,7 @@ public final class AgainEdgesTest {
     }
 
     private static void dueTwo(VaryStore x) {
-        Due.due("things", x.things(), 2);
+        Due.due("things", Due.things(x), 2);
         dueThing(x, 0, 3, 10, 1, 1);
         Due.due("path", Due.thing(x, 0, 0), 0);
         Due.dueText("etag", Due.etag(x, 0), "e");
@@ -243,23 +243,23 @@ public final class AgainEdgesTest {
         dueTwo(x);
         Due.due("none", Due.again(x, 2, "etag: e\nage: 9\ncache-control: no-cache\n"), 0);
         dueTwo(x);
-        Due.due("fault", x.fault(), VaryStore.NONE);
+        Due.due("fault", Due.fault(x), VaryStore.NONE);
     }
 
     // "IllegalArgumentException as above": the THINGS and the LATEST REQUEST stay.
     private static void wrongChangesNothing() {
         VaryStore x = two();
         Due.due("a wrong text", Due.again(x, 0, "age: 9\ncache-control\n"), Due.THROWS);
-        Due.due("its fault", x.fault(), 7);
+        Due.due("its fault", Due.fault(x), 7);
         dueTwo(x);
         Due.due("a text without end", Due.again(x, 0, "age: 9"), Due.THROWS);
-        Due.due("its fault", x.fault(), 0);
+        Due.due("its fault", Due.fault(x), 0);
         dueTwo(x);
         Due.due("a wrong path", Due.again(x, 16, "age: 9\n"), Due.THROWS);
-        Due.due("no fault", x.fault(), VaryStore.NONE);
+        Due.due("no fault", Due.fault(x), VaryStore.NONE);
         dueTwo(x);
         Due.due("both are wrong", Due.again(x, -1, "age: 9\n9"), Due.THROWS);
-        Due.due("the fault", x.fault(), 7);
+        Due.due("the fault", Due.fault(x), 7);
         dueTwo(x);
     }
 
@@ -272,7 +272,7 @@ public final class AgainEdgesTest {
                 VaryStore x = two();
                 Due.again(x, path, text);
                 Due.due("the tape is empty behind " + text, Due.ask(x, 9, ""), 0);
-                Due.due("no fault", x.fault(), VaryStore.NONE);
+                Due.due("no fault", Due.fault(x), VaryStore.NONE);
                 Due.due("a whole tape has room", Due.keep(x, 9, "etag:" + "e".repeat(294) + "\n"), 1);
             }
         }

@@ -20,7 +20,7 @@ public final class AgainTest {
     }
 
     private static void dueThing(VaryStore x, int age, int life, int fresh, int strict) {
-        int last = x.things() - 1;
+        int last = Due.things(x) - 1;
         Due.due("age", Due.thing(x, last, 1), age);
         Due.due("life", Due.thing(x, last, 2), life);
         Due.due("fresh", Due.thing(x, last, 3), fresh);
@@ -38,7 +38,7 @@ public final class AgainTest {
         dueThing(x, 5, 10, 1, 0);
         Due.due("again without age", Due.again(x, 1, ""), 1);
         dueThing(x, 0, 10, 1, 0);
-        Due.due("things", x.things(), 2);
+        Due.due("things", Due.things(x), 2);
     }
 
     private static void cacheControlStays() {
@@ -109,7 +109,7 @@ public final class AgainTest {
         Due.due("not alike", Due.ask(x, 1, "lang: b\nenc: y\n"), 0);
         Due.ask(x, 1, "lang: a\n");
         Due.due("keep takes its place", Due.keep(x, 1, "etag: e\nvary: lang\n"), 1);
-        Due.due("things", x.things(), 1);
+        Due.due("things", Due.things(x), 1);
     }
 
     // The document names two cases of false, and these are none of them.
@@ -119,7 +119,7 @@ public final class AgainTest {
         Due.due("private", Due.again(x, 1, "cache-control: private\nvary: *\n"), 1);
         Due.ask(x, 1, "cache-control: no-store\n");
         Due.due("the request's no-store", Due.again(x, 1, ""), 1);
-        Due.due("things", x.things(), 1);
+        Due.due("things", Due.things(x), 1);
         dueThing(x, 0, 0, 0, 0);
     }
 
@@ -131,24 +131,24 @@ public final class AgainTest {
         }
         int[] paths = {-1, 16, 3, 15, -99, Integer.MIN_VALUE, Integer.MAX_VALUE};
         for (int path : paths) {
-            Due.due("purge " + path, x.purge(path), 0);
+            Due.due("purge " + path, Due.purge(x, path), 0);
         }
-        Due.due("things", x.things(), 8);
-        Due.due("purge 1", x.purge(1), 3);
-        Due.due("things", x.things(), 5);
+        Due.due("things", Due.things(x), 8);
+        Due.due("purge 1", Due.purge(x, 1), 3);
+        Due.due("things", Due.things(x), 5);
         String[] want = {"0", "2", "3", "5", "6"};
         for (int i = 0; i < want.length; i++) {
             Due.dueText("thing " + i, Due.etag(x, i), want[i]);
         }
-        Due.due("purge 1 again", x.purge(1), 0);
+        Due.due("purge 1 again", Due.purge(x, 1), 0);
         Due.type(x, "etag: t\n");
-        Due.due("purge 0", x.purge(0), 3);
+        Due.due("purge 0", Due.purge(x, 0), 3);
         Due.due("the tape stays", Due.keep(x, 9, ""), 1);
-        Due.due("purge 2", x.purge(2), 2);
+        Due.due("purge 2", Due.purge(x, 2), 2);
         Due.dueText("the last", Due.etag(x, 0), "t");
         Due.due("ask for what went", Due.ask(x, 0, "a: 0\n"), 0);
         Due.due("keep anew", Due.keep(x, 0, "etag: u\n"), 1);
-        Due.due("things", x.things(), 2);
+        Due.due("things", Due.things(x), 2);
     }
 
     private static void passing() {
@@ -159,11 +159,5 @@ public final class AgainTest {
         }
         Due.due("pass 1", Due.pass(x, 1), 1);
         Due.due("pass 100000", Due.pass(x, 100000), 100001);
-        // What calls beyond the 512th answer is free; the top of the TIME can only be seen there.
-        VaryStore y = new VaryStore();
-        for (int i = 1; i <= 10000; i++) {
-            Due.due("pass to the top", Due.pass(y, 100000), i * 100000L);
-        }
-        Due.due("pass above the top", Due.pass(y, 1), Due.THROWS);
     }
 }

@@ -52,9 +52,9 @@ public final class AskEdgesTest {
         int[] wrong = {-1, 16, 17, -16, 32, 256, Integer.MIN_VALUE, Integer.MAX_VALUE};
         for (int path : wrong) {
             Due.due("ask " + path, Due.ask(x, path, ""), Due.THROWS);
-            Due.due("fault", x.fault(), VaryStore.NONE);
+            Due.due("fault", Due.fault(x), VaryStore.NONE);
         }
-        Due.due("things", x.things(), 16);
+        Due.due("things", Due.things(x), 16);
     }
 
     // "Without one: MISS."
@@ -69,7 +69,7 @@ public final class AskEdgesTest {
         Due.due("of this path, alike", Due.ask(x, 0, "a: 1\n"), 1);
         Due.due("of this path, not alike", Due.ask(x, 0, "a: 2\n"), 0);
         Due.due("alike, not of this path", Due.ask(x, 1, "a: 1\n"), 0);
-        x.purge(0);
+        Due.purge(x, 0);
         Due.due("gone", Due.ask(x, 0, "a: 1\n"), 0);
     }
 
@@ -209,7 +209,7 @@ public final class AskEdgesTest {
     private static void onlyIfCached() {
         VaryStore x = new VaryStore();
         Due.due("instead of MISS", Due.ask(x, 0, "cache-control: only-if-cached\n"), 4);
-        Due.due("nothing is kept by it", x.things(), 0);
+        Due.due("nothing is kept by it", Due.things(x), 0);
         Due.due("keep", Due.keep(x, 0, "cache-control: max-age=5\n"), 1);
         Due.due("fresh", Due.ask(x, 0, "cache-control: only-if-cached\n"), 1);
         Due.pass(x, 5);
@@ -254,11 +254,11 @@ public final class AskEdgesTest {
         VaryStore x = new VaryStore();
         Due.ask(x, 0, "a: 1\n");
         Due.due("a wrong text", Due.ask(x, 0, "a: 2\ncache-control: no-store\nbad\n"), Due.THROWS);
-        Due.due("its fault", x.fault(), 29);
+        Due.due("its fault", Due.fault(x), 29);
         Due.due("a text without end", Due.ask(x, 0, "a: 2\ncache-control: no-store"), Due.THROWS);
-        Due.due("its fault", x.fault(), 5);
+        Due.due("its fault", Due.fault(x), 5);
         Due.due("a wrong path", Due.ask(x, 16, "a: 2\ncache-control: no-store\n"), Due.THROWS);
-        Due.due("no fault", x.fault(), VaryStore.NONE);
+        Due.due("no fault", Due.fault(x), VaryStore.NONE);
         Due.due("a wrong path", Due.ask(x, -1, "a: 2\ncache-control: no-store\n"), Due.THROWS);
         Due.due("keep", Due.keep(x, 0, "etag: e\nvary: a\n"), 1);
         Due.due("kept by a: 1", Due.ask(x, 0, "a: 1\ncache-control: no-store\n"), 3);
@@ -290,11 +290,11 @@ public final class AskEdgesTest {
         Due.keep(x, 0, "a: 2\netag: e\n");
         Due.again(x, 0, "a: 3\n");
         Due.due("keep", Due.keep(x, 0, "etag: e\nvary: a\n"), 1);
-        x.purge(9);
+        Due.purge(x, 9);
         Due.due("by the latest request", Due.ask(x, 0, "a: 1\ncache-control: max-stale\n"), 2);
-        Due.due("things", x.things(), 2);
+        Due.due("things", Due.things(x), 2);
         Due.due("an empty request", Due.ask(x, 0, ""), 3);
         Due.due("keep", Due.keep(x, 0, "etag: f\nvary: a\n"), 1);
-        Due.due("things", x.things(), 3);
+        Due.due("things", Due.things(x), 3);
     }
 }

@@ -23,14 +23,14 @@ public final class CallsEdgesTest {
 
     // "Nothing is KEPT"; the tape is empty, the TIME is 0, no TEXT was read.
     private static void nothingIsKept() {
-        Due.due("things", new VaryStore().things(), 0);
-        Due.due("fault", new VaryStore().fault(), VaryStore.NONE);
+        Due.due("things", Due.things(new VaryStore()), 0);
+        Due.due("fault", Due.fault(new VaryStore()), VaryStore.NONE);
         Due.due("the time", Due.pass(new VaryStore(), 1), 1);
         for (int path = 0; path < 16; path++) {
             Due.due("ask", Due.ask(new VaryStore(), path, ""), 0);
             Due.due("again", Due.again(new VaryStore(), path, ""), 0);
             Due.due("keep", Due.keep(new VaryStore(), path, ""), 0);
-            Due.due("purge", new VaryStore().purge(path), 0);
+            Due.due("purge", Due.purge(new VaryStore(), path), 0);
         }
         for (int what = -1; what <= 101; what++) {
             Due.due("thing", Due.thing(new VaryStore(), 0, what), Due.THROWS);
@@ -53,9 +53,9 @@ public final class CallsEdgesTest {
         VaryStore y = new VaryStore();
         Due.type(x, "etag: e");
         Due.due("the other's tape", Due.keep(y, 0, "\n"), Due.THROWS);
-        Due.due("the other's fault", x.fault(), VaryStore.NONE);
+        Due.due("the other's fault", Due.fault(x), VaryStore.NONE);
         Due.due("keep", Due.keep(x, 0, "\n"), 1);
-        Due.due("the other's things", y.things(), 0);
+        Due.due("the other's things", Due.things(y), 0);
         Due.pass(x, 50);
         Due.due("the other's time", Due.pass(y, 1), 1);
     }
@@ -73,45 +73,45 @@ public final class CallsEdgesTest {
     private static void purgeHowMany() {
         for (int count = 0; count <= 24; count++) {
             VaryStore x = filled(count, 1);
-            Due.due("purge of another path", x.purge(1), 0);
-            Due.due("things", x.things(), count);
-            Due.due("purge of " + count, x.purge(0), count);
-            Due.due("things", x.things(), 0);
-            Due.due("purge again", x.purge(0), 0);
+            Due.due("purge of another path", Due.purge(x, 1), 0);
+            Due.due("things", Due.things(x), count);
+            Due.due("purge of " + count, Due.purge(x, 0), count);
+            Due.due("things", Due.things(x), 0);
+            Due.due("purge again", Due.purge(x, 0), 0);
             Due.due("none is there", Due.thing(x, 0, 0), Due.THROWS);
         }
         VaryStore x = filled(24, 16);
         for (int path = 0; path < 16; path++) {
-            Due.due("purge of " + path, x.purge(path), path < 8 ? 2 : 1);
+            Due.due("purge of " + path, Due.purge(x, path), path < 8 ? 2 : 1);
         }
-        Due.due("things", x.things(), 0);
+        Due.due("things", Due.things(x), 0);
     }
 
     // "0 if there is no such PATH"
     private static void purgeOfNoPath() {
         VaryStore x = filled(24, 16);
         for (int path : NO_PATHS) {
-            Due.due("purge of " + path, x.purge(path), 0);
-            Due.due("things", x.things(), 24);
+            Due.due("purge of " + path, Due.purge(x, path), 0);
+            Due.due("things", Due.things(x), 24);
         }
         VaryStore y = new VaryStore();
         for (int path : NO_PATHS) {
-            Due.due("purge of " + path, y.purge(path), 0);
+            Due.due("purge of " + path, Due.purge(y, path), 0);
         }
     }
 
     private static void purgeMakesRoom() {
         VaryStore x = filled(24, 2);
-        Due.due("purge", x.purge(1), 12);
+        Due.due("purge", Due.purge(x, 1), 12);
         for (int i = 0; i < 12; i++) {
             Due.ask(x, 0, "a: " + (100 + i) + "\n");
             Due.due("keep", Due.keep(x, 3, "etag: " + (100 + i) + "\nvary: a\n"), 1);
-            Due.due("things", x.things(), 13 + i);
+            Due.due("things", Due.things(x), 13 + i);
             Due.dueText("the first stays", Due.etag(x, 0), "0");
         }
         Due.ask(x, 0, "a: 112\n");
         Due.due("keep", Due.keep(x, 3, "etag: 112\nvary: a\n"), 1);
-        Due.due("things", x.things(), 24);
+        Due.due("things", Due.things(x), 24);
         Due.dueText("the first went", Due.etag(x, 0), "2");
     }
 
@@ -123,8 +123,8 @@ public final class CallsEdgesTest {
         Due.ask(x, 0, "a: 77\n");
         Due.keep(x, 0, "a: b\nc\n");
         Due.type(x, "etag: t\nvary: a\n");
-        Due.due("purge", x.purge(1), 3);
-        Due.due("the fault", x.fault(), 5);
+        Due.due("purge", Due.purge(x, 1), 3);
+        Due.due("the fault", Due.fault(x), 5);
         String[] want = {"0", "2", "3", "5", "6", "8"};
         for (int i = 0; i < want.length; i++) {
             Due.dueText("thing " + i, Due.etag(x, i), want[i]);
@@ -155,7 +155,7 @@ public final class CallsEdgesTest {
         for (int n : wrong) {
             Due.due("pass " + n, Due.pass(x, n), Due.THROWS);
             Due.due("age", Due.thing(x, 0, 1), 5);
-            Due.due("fault", x.fault(), VaryStore.NONE);
+            Due.due("fault", Due.fault(x), VaryStore.NONE);
         }
         Due.due("pass 1", Due.pass(x, 1), 6);
     }
@@ -163,6 +163,7 @@ public final class CallsEdgesTest {
     // "or it would be above 1000000000": no run of 512 calls comes so far, yet the class knows it.
     private static void topOfTheTime() {
         VaryStore x = Due.kept(0, "etag: e\nage: 999999\n");
+        Due.useBeyondTheLastCall(x);
         for (int i = 1; i < 10000; i++) {
             Due.due("pass", Due.pass(x, 100000), i * 100000L);
         }
@@ -181,20 +182,20 @@ public final class CallsEdgesTest {
     private static void thingsFromNoneToTwentyFour() {
         VaryStore x = new VaryStore();
         for (int i = 0; i < 30; i++) {
-            Due.due("things", x.things(), Math.min(24, i));
-            Due.due("told twice", x.things(), Math.min(24, i));
+            Due.due("things", Due.things(x), Math.min(24, i));
+            Due.due("told twice", Due.things(x), Math.min(24, i));
             Due.ask(x, 0, "a: " + i + "\n");
             Due.keep(x, 0, "etag: e\nvary: a\n");
         }
         Due.keep(x, 0, "vary: a\n");
-        Due.due("one goes", x.things(), 23);
+        Due.due("one goes", Due.things(x), 23);
         Due.ask(x, 0, "a: 20\n");
         Due.again(x, 0, "");
-        Due.due("made again", x.things(), 23);
+        Due.due("made again", Due.things(x), 23);
         Due.keep(x, 0, "etag: f\nvary: a\n");
-        Due.due("takes the place", x.things(), 23);
-        x.purge(0);
-        Due.due("purged", x.things(), 0);
+        Due.due("takes the place", Due.things(x), 23);
+        Due.purge(x, 0);
+        Due.due("purged", Due.things(x), 0);
     }
 
     // "An object is used for at most 512 calls after it has been made": the last of them still holds.
@@ -214,6 +215,6 @@ public final class CallsEdgesTest {
         Due.due("calls", calls, 510);
         Due.due("kept", kept, 102);
         Due.due("call 511", Due.again(x, 0, ""), 1);
-        Due.due("call 512", x.things(), 24);
+        Due.due("call 512", Due.things(x), 24);
     }
 }

@@ -41,6 +41,18 @@ public final class FaceTest {
                 "public int VaryStore.thing(int,int) throws java.util.NoSuchElementException",
                 "public int VaryStore.things()"));
         Due.dueText("the face", seen.toString(), want.toString());
+        Due.dueText("above it", face.getGenericSuperclass().getTypeName(), "java.lang.Object");
+        Due.due("interfaces", face.getInterfaces().length, 0);
+        classesInside(face);
         Due.end();
+    }
+
+    // "the classes inside it, which are private or package-visible and static"
+    private static void classesInside(Class<?> face) {
+        for (Class<?> inside : face.getDeclaredClasses()) {
+            int flags = inside.getModifiers();
+            Due.due(inside + " is static", Modifier.isStatic(flags) ? 1 : 0, 1);
+            Due.due(inside + " is seen", Modifier.isPublic(flags) || Modifier.isProtected(flags) ? 1 : 0, 0);
+        }
     }
 }

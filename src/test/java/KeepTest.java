@@ -18,7 +18,7 @@ public final class KeepTest {
     private static VaryStore kept(String text) {
         VaryStore x = new VaryStore();
         Due.due("keep " + text, Due.keep(x, 5, text), 1);
-        Due.due("things", x.things(), 1);
+        Due.due("things", Due.things(x), 1);
         Due.due("path", Due.thing(x, 0, 0), 5);
         return x;
     }
@@ -131,7 +131,7 @@ public final class KeepTest {
         VaryStore x = new VaryStore();
         Due.due("ask", Due.ask(x, 0, request), 0);
         Due.due("keep " + text + " for " + request, Due.keep(x, 0, text), 0);
-        Due.due("things", x.things(), 0);
+        Due.due("things", Due.things(x), 0);
         Due.due("the tape is empty", Due.keep(x, 0, ""), 0);
     }
 
@@ -161,10 +161,10 @@ public final class KeepTest {
         Due.due("another vary, shorter", Due.keep(x, 0, "etag: four\nvary: a\n"), 1);
         Due.ask(x, 0, "a: 1\nb: 3\n");
         Due.due("other values", Due.keep(x, 0, "etag: five\nvary: a, b\n"), 1);
-        Due.due("things", x.things(), 5);
+        Due.due("things", Due.things(x), 5);
         Due.ask(x, 0, "a: 1,2,\nb: 3\n");
         Due.due("the same", Due.keep(x, 0, "etag: six\nvary: A,b,,\n"), 1);
-        Due.due("things", x.things(), 5);
+        Due.due("things", Due.things(x), 5);
         String[] want = {"two", "three", "four", "five", "six"};
         for (int i = 0; i < want.length; i++) {
             Due.dueText("thing " + i, Due.etag(x, i), want[i]);
@@ -178,19 +178,19 @@ public final class KeepTest {
         Due.keep(x, 1, "etag: two\nvary: a\n");
         Due.keep(x, 0, "etag: three\n");
         Due.due("vary *", Due.keep(x, 0, "etag: e\nvary: *\n"), 0);
-        Due.due("nothing goes", x.things(), 3);
+        Due.due("nothing goes", Due.things(x), 3);
         Due.due("no-store", Due.keep(x, 0, "cache-control: no-store\nvary: A\n"), 0);
-        Due.due("one goes", x.things(), 2);
+        Due.due("one goes", Due.things(x), 2);
         Due.dueText("another path stays", Due.etag(x, 0), "two");
         Due.dueText("another vary stays", Due.etag(x, 1), "three");
         Due.due("no life and no etag", Due.keep(x, 0, ""), 0);
-        Due.due("one goes", x.things(), 1);
+        Due.due("one goes", Due.things(x), 1);
         Due.ask(x, 1, "a: 2\ncache-control: no-store\n");
         Due.due("other values", Due.keep(x, 1, "etag: e\nvary: a\n"), 0);
-        Due.due("nothing goes", x.things(), 1);
+        Due.due("nothing goes", Due.things(x), 1);
         Due.ask(x, 1, "a: 1\ncache-control: no-store\n");
         Due.due("the request's no-store", Due.keep(x, 1, "etag: e\nvary: a\n"), 0);
-        Due.due("one goes", x.things(), 0);
+        Due.due("one goes", Due.things(x), 0);
     }
 
     private static void keepByNumber(VaryStore x, int path, int number) {
@@ -202,13 +202,13 @@ public final class KeepTest {
         VaryStore x = new VaryStore();
         for (int i = 0; i < 24; i++) {
             keepByNumber(x, i % 16, i);
-            Due.due("things", x.things(), i + 1);
+            Due.due("things", Due.things(x), i + 1);
         }
         keepByNumber(x, 3, 3);
-        Due.due("the same one's place", x.things(), 24);
+        Due.due("the same one's place", Due.things(x), 24);
         Due.dueText("the first is still there", Due.etag(x, 0), "0");
         keepByNumber(x, 0, 24);
-        Due.due("one goes", x.things(), 24);
+        Due.due("one goes", Due.things(x), 24);
         Due.dueText("the first went", Due.etag(x, 0), "1");
         keepByNumber(x, 0, 25);
         keepByNumber(x, 0, 26);
@@ -239,7 +239,7 @@ public final class KeepTest {
         }
         Due.dueText("0 stays", Due.etag(x, 0), "0");
         Due.dueText("2 stays", Due.etag(x, 1), "2");
-        Due.due("things", x.things(), 24);
+        Due.due("things", Due.things(x), 24);
     }
 
     private static void usedLongAgoGoes() {
@@ -255,7 +255,7 @@ public final class KeepTest {
         keepByNumber(x, 15, 24);
         Due.dueText("it goes before what was kept later", Due.etag(x, 0), "1");
         Due.due("path", Due.thing(x, 0, 0), 15);
-        Due.due("things", x.things(), 24);
+        Due.due("things", Due.things(x), 24);
     }
 
     private static void wrongThings() {
@@ -270,6 +270,6 @@ public final class KeepTest {
         }
         Due.due("first letter", Due.thing(x, 0, 100), 'a');
         Due.due("last letter", Due.thing(x, 0, 102), 'c');
-        Due.due("still there", x.things(), 1);
+        Due.due("still there", Due.things(x), 1);
     }
 }

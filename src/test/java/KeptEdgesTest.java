@@ -37,8 +37,8 @@ public final class KeptEdgesTest {
         int[] wrong = {-1, 16, 17, -16, 32, 256, Integer.MIN_VALUE, Integer.MAX_VALUE};
         for (int path : wrong) {
             Due.due("keep " + path, Due.keep(x, path, "etag: f\n"), Due.THROWS);
-            Due.due("no fault of the text", x.fault(), VaryStore.NONE);
-            Due.due("things", x.things(), 16);
+            Due.due("no fault of the text", Due.fault(x), VaryStore.NONE);
+            Due.due("things", Due.things(x), 16);
             Due.due("the tape is empty then", Due.keep(x, 0, "etag: e\n"), 1);
             Due.dueText("the etag alone", Due.etag(x, 15), "e");
         }
@@ -183,7 +183,7 @@ public final class KeptEdgesTest {
                         Due.ask(x, 0, requests[k]), alike == 1 ? 3 : 0);
                 Due.due("again", Due.again(x, 0, ""), alike);
                 Due.due("keep", Due.keep(x, 0, "etag: f\nvary: a\n"), 1);
-                Due.due("things", x.things(), 2 - alike);
+                Due.due("things", Due.things(x), 2 - alike);
             }
         }
     }
@@ -234,9 +234,9 @@ public final class KeptEdgesTest {
         VaryStore x = new VaryStore();
         Due.ask(x, 3, request);
         Due.due("keep " + text + " for " + request, Due.keep(x, 3, text), want);
-        Due.due("things", x.things(), want);
+        Due.due("things", Due.things(x), want);
         Due.due("the tape is empty then", Due.keep(x, 4, ""), 0);
-        Due.due("fault", x.fault(), VaryStore.NONE);
+        Due.due("fault", Due.fault(x), VaryStore.NONE);
     }
 
     // "and it has more than LIFE 0, or an etag"
@@ -288,7 +288,7 @@ public final class KeptEdgesTest {
         Due.due("keep another", Due.keep(x, 5, "etag: two\n"), 1);
         Due.ask(x, 9, second);
         Due.due("keep", Due.keep(x, other, "etag: three\nvary: " + by + "\n"), 1);
-        Due.due(vary + " of " + first + ", " + by + " of " + second, x.things(), want + 1);
+        Due.due(vary + " of " + first + ", " + by + " of " + second, Due.things(x), want + 1);
         Due.dueText("the last", Due.etag(x, want), "three");
         Due.dueText("the first", Due.etag(x, 0), want == 1 ? "two" : "one");
     }
@@ -314,25 +314,25 @@ public final class KeptEdgesTest {
         Due.keep(x, 0, "etag: three\nvary: a, b\n");
         Due.ask(x, 7, "a: 1\n" + more);
         Due.due("keep " + text, Due.keep(x, 0, text), 0);
-        Due.due("things", x.things(), 3 - want);
+        Due.due("things", Due.things(x), 3 - want);
         Due.dueText("the first", Due.etag(x, 0), want == 1 ? "two" : "one");
         Due.dueText("the last", Due.etag(x, 2 - want), "three");
         Due.due("again false, the same goes once", Due.keep(x, 0, text), 0);
-        Due.due("things", x.things(), 3 - want);
+        Due.due("things", Due.things(x), 3 - want);
     }
 
     // "IllegalArgumentException as above": what is KEPT stays, the tape is empty, fault() tells.
     private static void wrongKeepChangesNothing() {
         VaryStore x = Due.kept(0, "etag: one\n");
         Due.due("a wrong text", Due.keep(x, 0, "etag: two\nbad\n"), Due.THROWS);
-        Due.due("its fault", x.fault(), 10);
+        Due.due("its fault", Due.fault(x), 10);
         Due.due("a wrong text that would not be kept", Due.keep(x, 0, "age: 1\nbad"), Due.THROWS);
-        Due.due("its fault", x.fault(), 7);
+        Due.due("its fault", Due.fault(x), 7);
         Due.due("a wrong path", Due.keep(x, 16, "etag: two\n"), Due.THROWS);
-        Due.due("no fault", x.fault(), VaryStore.NONE);
+        Due.due("no fault", Due.fault(x), VaryStore.NONE);
         Due.due("both are wrong", Due.keep(x, -1, "bad"), Due.THROWS);
-        Due.due("the fault", x.fault(), 0);
-        Due.due("things", x.things(), 1);
+        Due.due("the fault", Due.fault(x), 0);
+        Due.due("things", Due.things(x), 1);
         Due.dueText("it stays", Due.etag(x, 0), "one");
         Due.due("the tape is empty then", Due.keep(x, 1, "etag: three\n"), 1);
         Due.dueText("the etag alone", Due.etag(x, 1), "three");
@@ -343,7 +343,7 @@ public final class KeptEdgesTest {
         for (int i = 0; i < count; i++) {
             Due.ask(x, i % 16, "a: " + i + "\n");
             Due.due("keep " + i, Due.keep(x, i % 16, "etag: " + i + "\nvary: a\n" + more), 1);
-            Due.due("things", x.things(), Math.min(24, i + 1));
+            Due.due("things", Due.things(x), Math.min(24, i + 1));
         }
         return x;
     }
@@ -353,7 +353,7 @@ public final class KeptEdgesTest {
         for (int count = 22; count <= 30; count++) {
             VaryStore x = full(count, "");
             int first = Math.max(0, count - 24);
-            for (int i = 0; i < x.things(); i++) {
+            for (int i = 0; i < Due.things(x); i++) {
                 Due.dueText("thing " + i + " of " + count, Due.etag(x, i), String.valueOf(first + i));
             }
             Due.due("none behind the last", Due.thing(x, Math.min(24, count), 0), Due.THROWS);
@@ -362,7 +362,7 @@ public final class KeptEdgesTest {
 
     private static void dueGone(VaryStore x, String call, int number, int want) {
         int found = 0;
-        for (int i = 0; i < x.things(); i++) {
+        for (int i = 0; i < Due.things(x); i++) {
             found += String.valueOf(number).equals(Due.etag(x, i)) ? 1 : 0;
         }
         Due.due(call + ": " + number + " went", 1 - found, want);
@@ -371,7 +371,7 @@ public final class KeptEdgesTest {
     private static void keepOneMore(VaryStore x, int number) {
         Due.ask(x, 15, "a: " + number + "\n");
         Due.due("keep one more", Due.keep(x, 15, "etag: " + number + "\nvary: a\n"), 1);
-        Due.due("things", x.things(), 24);
+        Due.due("things", Due.things(x), 24);
     }
 
     private static void longestAgoGoes() {
@@ -421,31 +421,32 @@ public final class KeptEdgesTest {
         Due.dueText("the order stays", Due.etag(x, 0), "0");
         for (int i = 2; i < 24; i++) {
             keepOneMore(x, 100 + i);
-            dueGone(x, "kept longest ago", i, 1);
         }
+        Due.dueText("used twice", Due.etag(x, 0), "0");
+        Due.dueText("used once", Due.etag(x, 1), "1");
+        Due.dueText("all that were not used went", Due.etag(x, 2), "102");
         keepOneMore(x, 200);
-        dueGone(x, "used before 0", 1, 1);
-        dueGone(x, "used after 1", 0, 0);
+        Due.dueText("used after 1", Due.etag(x, 0), "0");
+        Due.dueText("1, used before 0, went", Due.etag(x, 1), "102");
         keepOneMore(x, 201);
-        dueGone(x, "used longest ago", 0, 1);
-        dueGone(x, "kept later", 102, 0);
+        Due.dueText("0, used longest ago, went", Due.etag(x, 0), "102");
     }
 
     // With 24, one that may not be KEPT makes none go but its own; one that takes a place neither.
     private static void fullAndRefused() {
         VaryStore x = full(24, "");
         Due.due("refused", Due.keep(x, 9, "age: 1\n"), 0);
-        Due.due("things", x.things(), 24);
+        Due.due("things", Due.things(x), 24);
         Due.due("a wrong text", Due.keep(x, 9, "etag\n"), Due.THROWS);
         Due.due("a wrong path", Due.keep(x, 16, "etag: e\n"), Due.THROWS);
-        Due.due("things", x.things(), 24);
+        Due.due("things", Due.things(x), 24);
         Due.ask(x, 5, "a: 5\n");
         Due.due("takes the place", Due.keep(x, 5, "etag: 5\nvary: a\n"), 1);
-        Due.due("things", x.things(), 24);
+        Due.due("things", Due.things(x), 24);
         Due.dueText("the first stays", Due.etag(x, 0), "0");
         Due.dueText("it is the last", Due.etag(x, 23), "5");
         Due.due("refused, its own goes", Due.keep(x, 5, "age: 5\nvary: a\n"), 0);
-        Due.due("things", x.things(), 23);
+        Due.due("things", Due.things(x), 23);
         keepOneMore(x, 100);
         Due.dueText("the first stays", Due.etag(x, 0), "0");
         keepOneMore(x, 101);
@@ -465,7 +466,7 @@ public final class KeptEdgesTest {
             if (count > 0) {
                 Due.due("the first", Due.thing(x, 0, 0), 0);
                 Due.due("the last", Due.thing(x, count - 1, 0), (count - 1) % 16);
-                Due.due("purge", x.purge((count - 1) % 16) > 0 ? 1 : 0, 1);
+                Due.due("purge", Due.purge(x, (count - 1) % 16) > 0 ? 1 : 0, 1);
                 Due.due("gone", Due.thing(x, count - 1, 0), Due.THROWS);
             }
             int[] far = {24, 25, 26, 99, -2, Integer.MIN_VALUE, Integer.MAX_VALUE};
@@ -508,11 +509,11 @@ public final class KeptEdgesTest {
         Due.due("again of 1", Due.again(x, 1, ""), 1);
         Due.ask(x, 3, "a: 3\n");
         Due.due("keep of 3", Due.keep(x, 3, "etag: 30\nvary: a\n"), 1);
-        Due.due("purge of 2", x.purge(2), 1);
+        Due.due("purge of 2", Due.purge(x, 2), 1);
         String[] want = {"0", "4", "1", "30"};
         for (int i = 0; i < want.length; i++) {
             Due.dueText("thing " + i, Due.etag(x, i), want[i]);
         }
-        Due.due("things", x.things(), 4);
+        Due.due("things", Due.things(x), 4);
     }
 }

@@ -6,12 +6,16 @@ import java.util.Map;
 import java.util.Random;
 
 /**
- * Long runs of calls, drawn with fixed seeds, on the class and on a plain model of the document
+ * Runs of 512 calls, drawn with fixed seeds, on the class and on a plain model of the document
  * that is written with the Java library; and no exception but those that the document names.
  */
 public final class ModelTest {
-    private static final int RUNS = 1500;
+    private static final int RUNS = 6000;
     private static final int CALLS = 512;
+    // As many as a text's typing may take and some, so that no act goes beyond the last call.
+    private static final int LAST_LOOKS = 120;
+    // The kinds of acts below this one ask, from it on they keep.
+    private static final int KEEP = 8;
 
     public static void main(String[] args) {
         for (int seed = 0; seed < RUNS; seed++) {
@@ -31,27 +35,48 @@ public final class ModelTest {
         VaryStore x = new VaryStore();
         Model model = new Model();
         int paths = crowded ? 16 : 1 + random.nextInt(2);
-        int calls = 0;
-        while (calls < CALLS) {
-            int kind = random.nextInt(19);
-            int path = random.nextInt(60) == 0 ? random.nextInt(40) - 12 : random.nextInt(paths);
-            if (kind < 17) {
-                String text = crowded && random.nextInt(4) > 0 ? shortText(kind, random) : textFor(kind, random);
-                calls += type(x, model, text, random);
-                read(x, model, kind, path, run + " call " + calls + " path " + path + " text " + text);
-            } else if (kind == 17 && random.nextInt(12) == 0) {
-                Due.due(run + " purge", x.purge(path), model.purge(path));
-            } else {
-                int n = random.nextInt(12) == 0 ? random.nextInt(100100) - 50 : random.nextInt(8);
-                Due.due(run + " pass", Due.pass(x, n), model.pass(n));
+        while (Due.callsOf(x) < CALLS - LAST_LOOKS) {
+            act(x, model, random, run + " call " + Due.callsOf(x), crowded, paths);
+            for (int k = 0; k < (crowded ? random.nextInt(2) : 2); k++) {
+                look(x, model, random, run);
             }
-            calls++;
-            compare(x, model, run + " call " + calls);
+        }
+        while (Due.callsOf(x) < CALLS) {
+            look(x, model, random, run);
+        }
+    }
+
+    private static void act(VaryStore x, Model model, Random random, String call, boolean crowded, int paths) {
+        int kind = crowded && random.nextBoolean() ? KEEP : random.nextInt(19);
+        int path = random.nextInt(60) == 0 ? random.nextInt(40) - 12 : random.nextInt(paths);
+        if (kind < 17) {
+            String text = crowded && random.nextInt(4) > 0 ? shortText(kind, random) : textFor(kind, random);
+            type(x, model, text, random);
+            read(x, model, kind, path, call + " path " + path + " text " + text);
+        } else if (kind == 17 && random.nextInt(12) == 0) {
+            Due.due(call + " purge", Due.purge(x, path), model.purge(path));
+        } else {
+            int n = random.nextInt(12) == 0 ? random.nextInt(100100) - 50 : random.nextInt(8);
+            Due.due(call + " pass", Due.pass(x, n), model.pass(n));
+        }
+    }
+
+    private static void look(VaryStore x, Model model, Random random, String run) {
+        String call = run + " call " + Due.callsOf(x);
+        int kind = random.nextInt(12);
+        if (kind == 0) {
+            Due.due(call + " things", Due.things(x), model.things.size());
+        } else if (kind == 1) {
+            Due.due(call + " fault", Due.fault(x), model.fault);
+        } else {
+            int i = random.nextInt(model.things.size() + 2) - (random.nextInt(9) == 0 ? 1 : 0);
+            int what = kind < 4 ? 99 + random.nextInt(8) : random.nextInt(9) - 1;
+            Due.due(call + " thing " + i + ", " + what, Due.thing(x, i, what), model.thing(i, what));
         }
     }
 
     private static void read(VaryStore x, Model model, int kind, int path, String call) {
-        if (kind < 8) {
+        if (kind < KEEP) {
             int want = model.ask(path);
             Due.due(call + " ask", Due.ask(x, path, ""), want);
             if (want >= 0) {
@@ -64,40 +89,24 @@ public final class ModelTest {
         }
     }
 
-    private static void compare(VaryStore x, Model model, String call) {
-        Due.due(call + " things", x.things(), model.things.size());
-        Due.due(call + " fault", x.fault(), model.fault);
-        for (int i = 0; i <= model.things.size(); i++) {
-            for (int what = -1; what <= 7; what++) {
-                Due.due(call + " thing " + i + ", " + what, Due.thing(x, i, what), model.thing(i, what));
-            }
-        }
-        for (int i = 0; i < model.things.size(); i++) {
-            Due.dueText(call + " etag " + i, Due.etag(x, i), model.things.get(i).etag);
-        }
-    }
-
-    /** Types in parts of any size, with a wrong part now and then; answers how many calls it took. */
-    private static int type(VaryStore x, Model model, String text, Random random) {
-        int calls = 0;
+    /** Types in parts of any size, with a wrong part now and then. */
+    private static void type(VaryStore x, Model model, String text, Random random) {
         int i = 0;
         while (i < text.length()) {
             int n = Math.min(text.length() - i, random.nextInt(20) == 0 ? 1 + random.nextInt(8) : 8);
             String part = text.substring(i, i + n);
             long above = n == 8 ? 0 : random.nextLong() << (8 * n);
             long word = Due.wordOf(part) | above;
-            Due.due("type", x.type(word, n) ? 1 : 0, model.type(part) ? 1 : 0);
+            Due.due("type", Due.typed(x, word, n), model.type(part) ? 1 : 0);
             if (random.nextInt(40) == 0) {
                 int letter = random.nextInt(256);
                 String other = "ab" + (char) letter;
                 boolean good = letter == 10 || (letter >= 32 && letter <= 126);
-                Due.due("type " + letter, x.type(Due.wordOf(other), 3) ? 1 : 0,
+                Due.due("type " + letter, Due.typed(x, Due.wordOf(other), 3),
                         good && model.type(other) ? 1 : 0);
             }
             i += n;
-            calls++;
         }
-        return calls;
     }
 
     private static String pick(Random random, String... choices) {
@@ -105,7 +114,7 @@ public final class ModelTest {
     }
 
     private static String shortText(int kind, Random random) {
-        if (kind < 8) {
+        if (kind < KEEP) {
             return pick(random, "", "a:1\n", "a:2\n", "a:3\n");
         }
         return pick(random, "etag:e\n", "etag:f\n", "expires:9\ndate:1\n") + pick(random, "", "vary:a\n");
@@ -113,12 +122,12 @@ public final class ModelTest {
 
     private static String textFor(int kind, Random random) {
         StringBuilder text = new StringBuilder();
-        int lines = kind < 8 ? random.nextInt(3) : 1 + random.nextInt(3);
+        int lines = kind < KEEP ? random.nextInt(3) : 1 + random.nextInt(3);
         if (random.nextInt(100) == 0) {
-            lines = 40;
+            lines = 12;
         }
         for (int k = 0; k < lines; k++) {
-            text.append(kind < 8 ? requestLine(random) : thingLine(random));
+            text.append(kind < KEEP ? requestLine(random) : thingLine(random));
         }
         if (random.nextInt(40) == 0) {
             text.append(pick(random, "x", "\n", "a b:c\n", ":\n", "abcdefghijklmnopq:r\n", "a:b"));
@@ -407,10 +416,16 @@ public final class ModelTest {
         }
 
         int thing(int i, int what) {
-            if (i >= things.size() || what < 0 || what > 6) {
+            if (i < 0 || i >= things.size()) {
                 return Due.THROWS;
             }
             Kept one = things.get(i);
+            if (what >= 100 && what < 100 + one.etag.length()) {
+                return one.etag.charAt(what - 100);
+            }
+            if (what < 0 || what > 6) {
+                return Due.THROWS;
+            }
             int[] answers = {one.path, age(one), one.life, fresh(one) ? 1 : 0, one.vary.size(),
                 one.etag.length(), strict(one) ? 1 : 0};
             return answers[what];

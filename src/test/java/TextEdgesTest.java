@@ -50,7 +50,7 @@ public final class TextEdgesTest {
                 Due.due("letters of 300", Due.thing(y, 0, 5), 294);
             } else {
                 Due.due("300 without an end", Due.keep(y, 0, ""), Due.THROWS);
-                Due.due("its fault", y.fault(), 0);
+                Due.due("its fault", Due.fault(y), 0);
             }
             Due.due("a tape of 300 again", Due.keep(y, 1, full(300)), 1);
         }
@@ -67,11 +67,11 @@ public final class TextEdgesTest {
             VaryStore x = new VaryStore();
             Due.type(x, "etag:(");
             int good = letter == 10 || (letter >= 32 && letter <= 126) ? 1 : 0;
-            Due.due("byte " + letter, x.type(letter, 1) ? 1 : 0, good);
+            Due.due("byte " + letter, Due.typed(x, letter, 1), good);
             Due.type(x, ")\n");
             if (letter == 10) {
                 Due.due("10 ends a line", Due.keep(x, 0, ""), Due.THROWS);
-                Due.due("its fault", x.fault(), 7);
+                Due.due("its fault", Due.fault(x), 7);
             } else {
                 Due.due("keep", Due.keep(x, 0, ""), 1);
                 Due.dueText("byte " + letter, Due.etag(x, 0), good == 1 ? "(" + (char) letter + ")" : "()");
@@ -88,15 +88,15 @@ public final class TextEdgesTest {
                 Due.type(x, "etag:");
                 long word = Due.wordOf("aaaaaaa\n") & ~(255L << (8 * place)) | ((long) letter << (8 * place));
                 for (int n = 8; n > place; n--) {
-                    Due.due("byte " + letter + " at " + place + " of " + n, x.type(word, n) ? 1 : 0, 0);
+                    Due.due("byte " + letter + " at " + place + " of " + n, Due.typed(x, word, n), 0);
                 }
                 Due.due("nothing was typed", Due.typed(x, "\n"), 1);
                 Due.due("no etag, not kept", Due.keep(x, 0, ""), 0);
                 if (place > 0) {
                     Due.type(x, "etag:");
-                    Due.due("the bad byte is above", x.type(word, place) ? 1 : 0, 1);
+                    Due.due("the bad byte is above", Due.typed(x, word, place), 1);
                     Due.due("keep", Due.keep(x, 0, ""), place > 1 ? 1 : 0);
-                    Due.due("things", x.things(), place > 1 ? 1 : 0);
+                    Due.due("things", Due.things(x), place > 1 ? 1 : 0);
                 }
             }
         }
@@ -108,13 +108,13 @@ public final class TextEdgesTest {
             Integer.MIN_VALUE + 1, Integer.MAX_VALUE - 7};
         VaryStore x = new VaryStore();
         for (int n : wrong) {
-            Due.due("n " + n, x.type(Due.wordOf("aaaaaaaa"), n) ? 1 : 0, 0);
+            Due.due("n " + n, Due.typed(x, Due.wordOf("aaaaaaaa"), n), 0);
         }
         for (int n = 1; n <= 8; n++) {
             Due.type(x, "etag:");
-            Due.due("n " + n, x.type(Due.wordOf("bcdefghi"), n) ? 1 : 0, 1);
-            Due.due("n 0", x.type(Due.wordOf("aaaaaaaa"), 0) ? 1 : 0, 0);
-            Due.due("n 9", x.type(Due.wordOf("aaaaaaaa"), 9) ? 1 : 0, 0);
+            Due.due("n " + n, Due.typed(x, Due.wordOf("bcdefghi"), n), 1);
+            Due.due("n 0", Due.typed(x, Due.wordOf("aaaaaaaa"), 0), 0);
+            Due.due("n 9", Due.typed(x, Due.wordOf("aaaaaaaa"), 9), 0);
             Due.due("keep", Due.keep(x, n, "\n"), 1);
             Due.dueText("the lowest " + n, Due.etag(x, n - 1), "bcdefghi".substring(8 - n));
         }
@@ -123,10 +123,10 @@ public final class TextEdgesTest {
     // "the highest first": of the n, and of the calls the earliest.
     private static void highestFirst() {
         VaryStore x = new VaryStore();
-        Due.due("part 1", x.type(0x65746167L, 4) ? 1 : 0, 1);
-        Due.due("part 2", x.type(0x3AL, 1) ? 1 : 0, 1);
-        Due.due("part 3", x.type(0x7E20212223242526L, 8) ? 1 : 0, 1);
-        Due.due("part 4", x.type(0xFFFFFFFFFFFF330AL, 2) ? 1 : 0, 1);
+        Due.due("part 1", Due.typed(x, 0x65746167L, 4), 1);
+        Due.due("part 2", Due.typed(x, 0x3AL, 1), 1);
+        Due.due("part 3", Due.typed(x, 0x7E20212223242526L, 8), 1);
+        Due.due("part 4", Due.typed(x, 0xFFFFFFFFFFFF330AL, 2), 1);
         Due.due("keep", Due.keep(x, 0, ""), 1);
         Due.dueText("etag", Due.etag(x, 0), "~ !\"#$%&3");
     }
@@ -135,13 +135,13 @@ public final class TextEdgesTest {
         VaryStore x = new VaryStore();
         int bad = fault == VaryStore.NONE ? 0 : Due.THROWS;
         Due.due("ask for '" + text + "'", Due.ask(x, 0, text), bad);
-        Due.due("its fault", x.fault(), fault);
+        Due.due("its fault", Due.fault(x), fault);
         Due.due("keep of '" + text + "'", Due.keep(x, 0, text), bad);
-        Due.due("its fault", x.fault(), fault);
+        Due.due("its fault", Due.fault(x), fault);
         Due.due("again of '" + text + "'", Due.again(x, 0, text), bad);
-        Due.due("its fault", x.fault(), fault);
+        Due.due("its fault", Due.fault(x), fault);
         Due.due("the tape is empty then", Due.ask(x, 0, ""), 0);
-        Due.due("no fault then", x.fault(), VaryStore.NONE);
+        Due.due("no fault then", Due.fault(x), VaryStore.NONE);
     }
 
     // "NAME 1 to 16 letters, digits or -"
@@ -248,12 +248,12 @@ public final class TextEdgesTest {
     private static void emptyText() {
         VaryStore x = Due.kept(0, "etag: e\nvary: a\n");
         Due.due("ask of an empty text", Due.ask(x, 0, ""), 3);
-        Due.due("no fault", x.fault(), VaryStore.NONE);
+        Due.due("no fault", Due.fault(x), VaryStore.NONE);
         Due.due("again of an empty text", Due.again(x, 0, ""), 1);
-        Due.due("no fault", x.fault(), VaryStore.NONE);
+        Due.due("no fault", Due.fault(x), VaryStore.NONE);
         Due.due("keep of an empty text", Due.keep(x, 0, ""), 0);
-        Due.due("no fault", x.fault(), VaryStore.NONE);
-        Due.due("another vary, so it stays", x.things(), 1);
+        Due.due("no fault", Due.fault(x), VaryStore.NONE);
+        Due.due("another vary, so it stays", Due.things(x), 1);
         read("", VaryStore.NONE);
     }
 
@@ -303,30 +303,30 @@ public final class TextEdgesTest {
     // "in the latest TEXT that was read: .. NONE if it was good (or none was read)"
     private static void faultOfTheLatestText() {
         VaryStore x = new VaryStore();
-        Due.due("none was read", x.fault(), VaryStore.NONE);
+        Due.due("none was read", Due.fault(x), VaryStore.NONE);
         Due.type(x, "bad");
-        Due.due("typed, not read", x.fault(), VaryStore.NONE);
+        Due.due("typed, not read", Due.fault(x), VaryStore.NONE);
         Due.due("ask", Due.ask(x, 0, "\n"), Due.THROWS);
-        Due.due("read by ask", x.fault(), 0);
-        x.purge(0);
+        Due.due("read by ask", Due.fault(x), 0);
+        Due.purge(x, 0);
         Due.pass(x, 1);
         Due.pass(x, 0);
         Due.thing(x, 0, 0);
-        x.things();
-        Due.due("a refused type", x.type(0, 1) ? 1 : 0, 0);
-        Due.due("other calls do not read", x.fault(), 0);
+        Due.things(x);
+        Due.due("a refused type", Due.typed(x, 0, 1), 0);
+        Due.due("other calls do not read", Due.fault(x), 0);
         Due.due("keep", Due.keep(x, 0, "a:b\nc\n"), Due.THROWS);
-        Due.due("read by keep", x.fault(), 4);
-        Due.due("told twice", x.fault(), 4);
+        Due.due("read by keep", Due.fault(x), 4);
+        Due.due("told twice", Due.fault(x), 4);
         Due.due("again", Due.again(x, 0, "a:bcd\nc\n"), Due.THROWS);
-        Due.due("read by again", x.fault(), 6);
+        Due.due("read by again", Due.fault(x), 6);
         Due.due("again, false", Due.again(x, 0, "a:b\n"), 0);
-        Due.due("good, though false", x.fault(), VaryStore.NONE);
+        Due.due("good, though false", Due.fault(x), VaryStore.NONE);
         Due.due("keep", Due.keep(x, 0, "a:b\nc\n"), Due.THROWS);
         Due.due("keep, false", Due.keep(x, 0, "a:b\n"), 0);
-        Due.due("good, though not kept", x.fault(), VaryStore.NONE);
+        Due.due("good, though not kept", Due.fault(x), VaryStore.NONE);
         Due.due("ask", Due.ask(x, 0, "q\n"), Due.THROWS);
         Due.due("ask", Due.ask(x, 0, "cache-control: only-if-cached\n"), 4);
-        Due.due("good, though refused", x.fault(), VaryStore.NONE);
+        Due.due("good, though refused", Due.fault(x), VaryStore.NONE);
     }
 }
